@@ -14,7 +14,7 @@ final class SlowModelTest {
     }
 
     public static void main(String[] args) {
-        for (int run = 1; run <= 150; run++) {
+        for (int run = 1; run <= 60; run++) {
             new SlowModelTest(run).run(run);
         }
         Due.end();
