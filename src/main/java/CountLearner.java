@@ -67,7 +67,7 @@ public final class CountLearner {
 
     public int sight(int table, int a, int b, int count, boolean atLeast) {
         Table t = tableAt(table);
-        if (t == null || !isSpan(a, b) || count < 0 || count > t.rows || t.sights >= MOST_SIGHTS) {
+        if (t == null || !isSpan(a, b) || count < 0 || count > t.rows) {
             return NONE;
         }
         return t.addSight(a, b, count, atLeast ? NO_BOUND : count);
@@ -298,6 +298,7 @@ public final class CountLearner {
             forget();
         }
 
+        /** The new sight's number; NONE if there is no place for one more. */
         int addSight(int a, int b, int least, int greatest) {
             int number = sights;
             if (number >= MOST_SIGHTS) {
@@ -458,14 +459,11 @@ public final class CountLearner {
             return way[fixed] <= height;
         }
 
-        /** Lowers marks as little as makes them agree with the rows and all that is kept. */
+        /** Lowers marks as little as makes them agree with all that is kept; the first and last are right already. */
         private void sink(int[] way) {
             boolean changed = true;
             for (int pass = 0; pass < PASSES && changed; pass++) {
-                changed = lower(way, VALUES, way[0] + rows);
-                if (lower(way, 0, way[VALUES] - rows)) {
-                    changed = true;
-                }
+                changed = false;
                 for (int s = 0; s < sights; s++) {
                     if (how[s] != KEPT) {
                         continue;

@@ -322,6 +322,8 @@ final class PromisesTest {
         Due.is("9: from two", x.least(0, 16, 24), 10);
         Due.is("9: within", x.least(0, 0, 8), 0);
         Due.is("9: another table", x.least(1, 0, 64), 50);
+        x.sight(1, 3, 9, 20, false);
+        Due.is("9: at once after a sight", x.least(1, 3, 9), 20);
         for (int[] span : NO_SPAN) {
             Due.is("9: least(0, " + span[0] + ", " + span[1] + ")", x.least(0, span[0], span[1]), -1);
         }
@@ -469,6 +471,27 @@ final class PromisesTest {
         Due.is("14: the greatest has grown", x.agrees(0), 1);
         x.truth(0, 21, 100000);
         Due.is("14: more than the rows", x.agrees(0), 0);
+        CountLearner full = with(40, 0, 0);
+        for (int s = 0; s < 40; s++) {
+            full.truth(0, s, 1);
+            full.sight(0, s, s + 1, 1, false);
+        }
+        Due.is("14: forty sights", full.agrees(0), 1);
+        onlySight(3, false, 0);
+        onlySight(4, false, 1);
+        onlySight(5, false, 0);
+        onlySight(3, true, 1);
+        onlySight(4, true, 1);
+        onlySight(5, true, 0);
+    }
+
+    /** The truth has 4 rows where the one sight has so many. */
+    private static void onlySight(int count, boolean atLeast, int agrees) {
+        CountLearner x = with(10, 0, 0);
+        x.truth(0, 19, 4);
+        x.truth(0, 20, 6);
+        x.sight(0, 0, 20, count, atLeast);
+        Due.is("14: the only sight, " + count + ", " + atLeast, x.agrees(0), agrees);
     }
 
     private static void cost() {
