@@ -2,8 +2,16 @@
 final class Due {
     private static int wrong = 0;
     private static int asked = 0;
+    private static int sentences = 0;
+    private static String sentence = "";
 
     private Due() {
+    }
+
+    /** From here on the answers are asked for one sentence of the document. */
+    static void about(String words) {
+        sentences++;
+        sentence = words + ": ";
     }
 
     static void is(String what, long got, long want) {
@@ -12,7 +20,7 @@ final class Due {
             wrong++;
             // One cause can spoil every later answer of a long run: the first ones tell it.
             if (wrong <= 20) {
-                System.out.println(what + " answered " + got + ", due is " + want);
+                System.out.println(sentence + what + " answered " + got + ", due is " + want);
             }
         }
     }
@@ -22,7 +30,8 @@ final class Due {
     }
 
     static void end() {
-        System.out.println(asked + " answers, " + wrong + " not as due");
+        String of = sentences == 0 ? "" : " for " + sentences + " sentences";
+        System.out.println(asked + " answers" + of + ", " + wrong + " not as due");
         if (wrong != 0) {
             System.exit(1);
         }
