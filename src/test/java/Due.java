@@ -30,7 +30,7 @@ final class Due {
     }
 
     static void end() {
-        String of = sentences == 0 ? "" : " for " + sentences + " sentences";
+        String of = sentences == 0 ? "" : " on sentences: " + sentences;
         System.out.println(asked + " answers" + of + ", " + wrong + " not as due");
         if (wrong != 0) {
             System.exit(1);

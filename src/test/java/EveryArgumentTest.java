@@ -14,8 +14,8 @@ final class EveryArgumentTest {
 
     private final Starts start;
     private CountLearner learner;
-    private int[] rows = new int[3];
-    private int[] sights = new int[3];
+    private final int[] rows = new int[3];
+    private final int[] sights = new int[3];
     private int calls = 0;
 
     private EveryArgumentTest(Starts start) {
