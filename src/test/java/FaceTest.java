@@ -35,6 +35,10 @@ final class FaceTest {
         Due.is("public and final",
             Modifier.isPublic(face.getModifiers()) && Modifier.isFinal(face.getModifiers()), true);
         Due.is("NONE", CountLearner.NONE, -1);
+        Due.is("above it", face.getSuperclass() == Object.class, true);
+        Due.is("its interfaces", face.getInterfaces().length, 0);
+        Due.is("its type parameters", face.getTypeParameters().length, 0);
+        Due.is("visible classes inside", face.getClasses().length, 0);
         methods(face);
         fields(face);
         constructors(face);
@@ -48,6 +52,7 @@ final class FaceTest {
             if (!Modifier.isPrivate(method.getModifiers())) {
                 seen.add(written(method));
                 names.add(method.getName());
+                Due.is("just public: " + method, plainlyPublic(method), true);
             }
         }
         Due.is("the methods " + seen, seen.equals(METHODS), true);
@@ -56,6 +61,10 @@ final class FaceTest {
                 Due.is("a private " + method.getName(), names.contains(method.getName()), false);
             }
         }
+    }
+
+    private static boolean plainlyPublic(Method method) {
+        return method.getModifiers() == Modifier.PUBLIC && method.getExceptionTypes().length == 0;
     }
 
     private static String written(Method method) {
@@ -70,6 +79,11 @@ final class FaceTest {
         for (Field field : face.getDeclaredFields()) {
             boolean hidden = Modifier.isPrivate(field.getModifiers());
             Due.is("field " + field.getName() + " hidden", hidden, !field.getName().equals("NONE"));
+            if (!hidden) {
+                int constant = Modifier.PUBLIC | Modifier.STATIC | Modifier.FINAL;
+                Due.is("a constant: " + field, field.getModifiers(), constant);
+                Due.is("an int: " + field, field.getType() == int.class, true);
+            }
         }
     }
 
